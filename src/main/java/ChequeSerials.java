@@ -313,8 +313,7 @@ public final class ChequeSerials {
         if (rank < NONE) {
             throw new IllegalArgumentException("a rank is NONE or not negative");
         }
-        return rank == NONE ? now.meantCheques(serial, letter)
-                : now.meantCheque(serial, letter, rank);
+        return now.meantCheques(serial, letter, rank);
     }
 
     /** Tells by which kind of slip the right reading of a serial becomes a reading. */
@@ -518,52 +517,22 @@ public final class ChequeSerials {
             return books.kindAt(cell) == WRITTEN ? FINE : NOT_WRITTEN;
         }
 
-        int meantCheques(int read, int letter) {
+        /** The cheque with a rank among those that a reading can have meant; for NONE how many. */
+        int meantCheques(int read, int letter, int rank) {
             int meant = 0;
-            for (int book = 0; book < books.held; book++) {
-                meant += meantInBook(book, read, letter);
-            }
-            return meant;
-        }
-
-        int meantCheque(int read, int letter, int rank) {
-            int left = rank;
             for (int order = 0; order < books.held; order++) {
                 int book = books.bookOfRank(order);
-                int meant = meantInBook(book, read, letter);
-                if (left < meant) {
-                    return meantSerial(book, read, letter, left);
-                }
-                left -= meant;
-            }
-            return NONE;
-        }
-
-        private int meantInBook(int book, int read, int letter) {
-            int meant = 0;
-            int first = books.firstOf(book);
-            int size = books.sizeOf(book);
-            for (int place = 0; place < size; place++) {
-                if (letters.slipKind(first + place, read, letter) != NONE) {
-                    meant++;
-                }
-            }
-            return meant;
-        }
-
-        private int meantSerial(int book, int read, int letter, int rank) {
-            int left = rank;
-            int first = books.firstOf(book);
-            int size = books.sizeOf(book);
-            for (int place = 0; place < size; place++) {
-                if (letters.slipKind(first + place, read, letter) != NONE) {
-                    if (left == 0) {
-                        return first + place;
+                int end = books.firstOf(book) + books.sizeOf(book);
+                for (int serial = books.firstOf(book); serial < end; serial++) {
+                    if (letters.slipKind(serial, read, letter) != NONE) {
+                        if (meant == rank) {
+                            return serial;
+                        }
+                        meant++;
                     }
-                    left--;
                 }
             }
-            return NONE;
+            return rank == NONE ? meant : NONE;
         }
     }
 
@@ -602,7 +571,11 @@ public final class ChequeSerials {
         }
 
         private int restOf(int sum) {
-            return modulus < 1 ? 0 : Math.floorMod(sum, modulus);
+            if (modulus < 1) {
+                return 0;
+            }
+            int rest = sum % modulus;
+            return rest < 0 ? rest + modulus : rest;
         }
 
         private static int digitAt(int serial, int position) {
@@ -984,9 +957,10 @@ public final class ChequeSerials {
         }
 
         void restoreLast(State now) {
-            if (depth > 0 && depth <= saved.length) {
-                depth--;
-                copyState(saved[depth], now);
+            int last = depth - 1;
+            if (last >= 0 && last < saved.length) {
+                copyState(saved[last], now);
+                depth = last;
             }
         }
 
@@ -1133,23 +1107,19 @@ public final class ChequeSerials {
             }
         }
 
+        /** Whether a digit can stand behind an order's head; no number begins with a zero. */
         private boolean fitsBehindHead(int start, int at) {
+            int number = numberIn(start + HEAD, at + 1);
             switch (signAt(start)) {
                 case 'b':
-                    return fitsNumber(start + HEAD, at, BOOK_SIZE);
+                    return number >= 1 && number <= BOOK_SIZE;
                 case 'w':
-                    return fitsNumber(start + HEAD, at, HIGHEST_AMOUNT);
+                    return number >= 1 && number <= HIGHEST_AMOUNT;
                 case 'v':
                     return at - start < HEAD + DIGITS;
                 default:
                     return false;
             }
-        }
-
-        /** Whether a digit goes on with a number from 1 to the highest, without a leading zero. */
-        private boolean fitsNumber(int from, int at, int highest) {
-            int number = numberIn(from, at + 1);
-            return number >= 1 && number <= highest;
         }
     }
 }

@@ -564,8 +564,10 @@ public final class ChequeSerials {
 
         int letterOf(int serial) {
             int sum = 0;
-            for (int position = 0; position < DIGITS; position++) {
-                sum += weightAt(position) * digitAt(serial, position);
+            int front = serial;
+            for (int position = DIGITS - 1; position >= 0; position--) {
+                sum += weightAt(position) * (front % 10);
+                front /= 10;
             }
             return restOf(sum);
         }
@@ -754,19 +756,14 @@ public final class ChequeSerials {
             return book;
         }
 
-        private int bookWith(int serial) {
+        int cellOf(int serial) {
             for (int book = 0; book < held; book++) {
                 int first = firstOf(book);
                 if (serial >= first && serial < first + sizeOf(book)) {
-                    return book;
+                    return book * BOOK_SIZE + serial - first;
                 }
             }
             return NONE;
-        }
-
-        int cellOf(int serial) {
-            int book = bookWith(serial);
-            return book == NONE ? NONE : book * BOOK_SIZE + serial - firstOf(book);
         }
 
         int kindAt(int cell) {

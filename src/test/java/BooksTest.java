@@ -272,6 +272,29 @@ public final class BooksTest {
         }
         x.book(0, 1);
         Checks.due("bookOf(2, 8)", x.bookOf(2, 8), 0);
+        fullBooksSideBySide();
+    }
+
+    private static void fullBooksSideBySide() {
+        ChequeSerials x = new ChequeSerials();
+        x.book(0, 40);
+        x.book(40, 40);
+        x.write(0, 1);
+        x.write(39, 20);
+        x.write(40, 300);
+        x.write(79, 500);
+        Checks.due("written amounts of the first full book", x.bookOf(0, 6), 21);
+        Checks.due("written amounts of the second full book", x.bookOf(1, 6), 800);
+        Checks.due("written cheques of the first full book", x.bookOf(0, 3), 2);
+        for (int serial = 0; serial <= 79; serial += serial % 40 == 0 ? 39 : 1) {
+            x.cash(serial, x.letter(serial));
+        }
+        Checks.due("cashed amounts of the first full book", x.bookOf(0, 7), 21);
+        Checks.due("cashed amounts of the second full book", x.bookOf(1, 7), 800);
+        x.voidRun(0, 39);
+        Checks.due("first blank cheque of the first full book", x.bookOf(0, 8), -1);
+        Checks.due("void cheques of the first full book", x.bookOf(0, 5), 38);
+        Checks.due("first blank cheque of the second full book", x.bookOf(1, 8), 41);
     }
 
     private static void promise17BookOfThrows() {

@@ -144,6 +144,9 @@ public final class OrderTextTest {
         Checks.type(x, "c000032R;c000034T");
         Checks.due("execute() of cashing by letters", x.execute(), 2);
         Checks.due("amounts cashed", x.count(7), 999 + 6 + 8);
+        ChequeSerials y = new ChequeSerials();
+        Checks.type(y, "b000000+2;w000000=1;c000000A;w000001=2");
+        Checks.due("execute() of cashing the least amount", y.execute(), 4);
     }
 
     private static void promise11StopsAtRefusal() {

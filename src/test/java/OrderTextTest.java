@@ -96,13 +96,10 @@ public final class OrderTextTest {
             {"c123456Q", ";"}, {"v123456-", digits}, {"v123456-12345", digits},
             {"v123456-123456", ";"}, {"c123456Q;", "bwcv"}, {"w123456=1;", "bwcv"}};
         for (String[] row : rows) {
-            ChequeSerials x = new ChequeSerials();
             for (int code = 33; code <= 126; code++) {
-                x.clearBuffer();
-                Checks.type(x, row[0]);
-                x.append(code);
                 int due = row[0].length() + (row[1].indexOf(code) >= 0 ? 1 : 0);
-                Checks.due("firstError() of " + row[0] + (char) code, x.firstError(), due);
+                Checks.due("firstError() of " + row[0] + (char) code,
+                        Checks.typed(row[0] + (char) code).firstError(), due);
             }
         }
     }

@@ -73,9 +73,7 @@ public final class UndoTest {
         Checks.due("keep and the buffer save nothing", x.count(10), 5);
         x.goBack(0);
         Checks.due("goBack saves", x.count(10), 6);
-        while (x.count(10) > 0) {
-            x.undo();
-        }
+        Checks.undoAll(x);
         x.book(7, 1);
         x.write(7, 1);
         Checks.due("book and write save", x.count(10), 2);
@@ -109,9 +107,7 @@ public final class UndoTest {
     private static void promise12Throws() {
         Checks.noState("undo() without saved states", () -> {
             ChequeSerials x = Checks.example();
-            while (x.count(10) > 0) {
-                x.undo();
-            }
+            Checks.undoAll(x);
             Checks.type(x, "b1");
             return x;
         }, x -> x.undo());

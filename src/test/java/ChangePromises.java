@@ -182,6 +182,10 @@ final class ChangePromises {
                 Checks.due("its first serial", x.bookOf(number, 0), first);
             }
         });
+        bookThrows();
+    }
+
+    private static void bookThrows() {
         Sentences.holds("Throws `IndexOutOfBoundsException` if there is no such serial as the first"
                 + " or the last one", ChangePromises::noFirstOrLast);
         Sentences.holds("Throws `IllegalArgumentException` if count is out of range", () -> {
@@ -332,6 +336,10 @@ final class ChangePromises {
             Checks.due("write(000023), of the sum 37", x.write(23, 5), 11);
             Checks.due("write(000035), of the sum 60", x.write(35, 5), 8);
         });
+        writeThrows();
+    }
+
+    private static void writeThrows() {
         Sentences.holds("Throws `IndexOutOfBoundsException` if there is no such cheque", () -> {
             for (int serial : new int[] {99, 105, 499, 510, -1, 1000000, LEAST, MOST}) {
                 Checks.noIndex("write(" + serial + ", 1)", Checks::busy, x -> x.write(serial, 1));
@@ -408,6 +416,10 @@ final class ChangePromises {
             Checks.due("cash(101, 10)", x.cash(101, 10), 999);
             Checks.due("not written", x.cash(101, 10), -3);
         });
+        cashThrows();
+    }
+
+    private static void cashThrows() {
         Sentences.holds("Throws `IndexOutOfBoundsException` if there is no such serial", () -> {
             for (int serial : new int[] {-1, 1000000, LEAST, MOST}) {
                 for (int letter : new int[] {0, 25, -1, 26}) {

@@ -118,6 +118,10 @@ final class NumberPromises {
                 + " the same kind (blank, written, cashed or void), itself counted",
                 NumberPromises::sameKindFrom);
         Sentences.bare("Returns the number.");
+        chequeThrows();
+    }
+
+    private static void chequeThrows() {
         Sentences.holds("Throws `IndexOutOfBoundsException` if there is no such cheque", () -> {
             for (int serial : new int[] {99, 105, 499, 510, 0, 999999, -1, 1000000, LEAST, MOST}) {
                 for (int what : new int[] {0, 4, -1, 5}) {
@@ -194,6 +198,10 @@ final class NumberPromises {
             Checks.due("cashed ones", x.bookOf(0, 4), 1);
             Checks.due("void ones", x.bookOf(0, 5), 39);
         });
+        bookOfAmountsAndBlank();
+    }
+
+    private static void bookOfAmountsAndBlank() {
         Sentences.holds("6 the amounts of those that are written together,", () -> {
             bookNumbers(6, 1, 300);
             ChequeSerials x = new ChequeSerials();
@@ -229,6 +237,10 @@ final class NumberPromises {
             Checks.due("the serial 0 is blank", y.bookOf(0, 8), 0);
         });
         Sentences.bare("Returns the number.");
+        bookOfThrows();
+    }
+
+    private static void bookOfThrows() {
         Sentences.holds("Throws `IndexOutOfBoundsException` if there is no such book", () -> {
             for (int book : new int[] {-1, 2, 6, LEAST, MOST}) {
                 for (int what : new int[] {0, 8, -1, 9}) {
@@ -303,6 +315,10 @@ final class NumberPromises {
             x.voidRun(0, 999999);
             Checks.due("count(7) when all others are void", x.count(7), 1019);
         });
+        countOthers();
+    }
+
+    private static void countOthers() {
         Sentences.holds("8 the refusals so far,", NumberPromises::refusalsSoFar);
         Sentences.holds("9 the modulus,", () -> {
             Checks.due("count(9) at first", new ChequeSerials().count(9), 11);

@@ -26,7 +26,7 @@ final class Sentences {
     /** Without the document the tests stand as well; just nothing is held against its words. */
     static void read() throws IOException {
         if (!Files.exists(DOCUMENT)) {
-            System.out.println("there is no " + DOCUMENT + ": what the tests quote is not looked at");
+            System.out.println("there is no " + DOCUMENT + ": no quote is looked at");
             return;
         }
         String name = "";

@@ -136,6 +136,10 @@ final class SlipPromises {
                         x -> x.weak(-1, kind, 0));
             }
         });
+        weakByBothWays();
+    }
+
+    private static void weakByBothWays() {
         Sentences.holds("`kind`: 0 or 1", () -> {
             ChequeSerials x = Checks.lettered(7, 7, 6, 5, 4, 3, 2);
             Checks.due("weak(0, 0, 0)", x.weak(0, 0, 0), 45);
@@ -153,6 +157,10 @@ final class SlipPromises {
             Checks.due("one pair swapped", Checks.lettered(9, 8, 9).weak(0, 1, 0), 1);
             Checks.due("no pair swapped", Checks.lettered(10, 8, 9).weak(0, 1, 0), 0);
         });
+        weakThrows();
+    }
+
+    private static void weakThrows() {
         Sentences.holds("Throws `IndexOutOfBoundsException` if there is no such position", () -> {
             int[][] rows = {{-1, 0, 0}, {6, 0, 1}, {5, 1, 0}, {6, 1, 1}, {-1, 1, 0}, {6, 2, 0},
                 {6, 0, 2}, {5, 1, 2}, {5, 1, -1}, {-1, 2, 2}, {LEAST, 0, 0}, {MOST, 1, 1}};
@@ -427,6 +435,10 @@ final class SlipPromises {
                         1);
             }
         });
+        meantRanks();
+    }
+
+    private static void meantRanks() {
         Sentences.holds("`rank`: NONE for how many there are;", () -> {
             ChequeSerials x = sevenths();
             Checks.due("meant(0, 0, NONE)", x.meant(0, 0, NONE), 13);
@@ -465,6 +477,10 @@ final class SlipPromises {
                 }
             }
         });
+        meantThrows();
+    }
+
+    private static void meantThrows() {
         Sentences.holds("Throws `IndexOutOfBoundsException` if there is no such serial", () -> {
             for (int serial : new int[] {-1, 1000000, LEAST, MOST}) {
                 Checks.noIndex("meant(" + serial + ", 0, NONE)", Checks::busy,
@@ -566,6 +582,10 @@ final class SlipPromises {
                         letter == 10 ? 3 : 2);
             }
         });
+        slipReturns();
+    }
+
+    private static void slipReturns() {
         Sentences.holds("Returns the kind;", SlipPromises::kindOfEachSlip);
         Sentences.holds("3 if it is the right reading itself;", () -> {
             ChequeSerials x = new ChequeSerials();
@@ -585,6 +605,10 @@ final class SlipPromises {
             Checks.due("a letter that cannot be", x.slip(123456, 123456, 11), -1);
             Checks.due("the letter Z", x.slip(123456, 123456, 25), -1);
         });
+        slipThrows();
+    }
+
+    private static void slipThrows() {
         Sentences.holds("Throws `IndexOutOfBoundsException` if there is no such serial", () -> {
             for (int serial : new int[] {-1, 1000000, LEAST, MOST}) {
                 for (int letter : new int[] {0, 26}) {

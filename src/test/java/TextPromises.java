@@ -254,7 +254,8 @@ final class TextPromises {
     private static void notComplete() {
         String[] texts = {"", "b", "b000500", "b000500+", "b000500+0", "b000500+41", "b000500+1;",
             "w000500=", "w000500=0", "w000500=1000", "c000500", "c000500a", "c00050A", "v000500",
-            "v000500-", "v000500-00050", "v000500-0005000", ";", ";b000500+1", "b000500+1;;c000500A",
+            "v000500-", "v000500-00050", "v000500-0005000", ";", ";b000500+1",
+            "b000500+1;;c000500A",
             "b000500+1;c000500", "b000500+1,c000500A", "B000500+1", "?", "b000500+1?",
             "v000500-000539;v000500-000539;v000500-000539;v000500-00053"};
         for (String text : texts) {
@@ -322,6 +323,10 @@ final class TextPromises {
             x.modulus(7);
             Checks.due("undo() of a single one", x.undo(), 0);
         });
+        undoThrows();
+    }
+
+    private static void undoThrows() {
         Sentences.holds("Throws `IllegalStateException` if no state is saved", () -> {
             Checks.noState("undo() at first", ChequeSerials::new, x -> x.undo());
             Checks.noState("undo() with all undone", () -> {
@@ -435,6 +440,10 @@ final class TextPromises {
             Checks.due("the state after undo()", Checks.state(x), due);
         });
         Sentences.holds("Undoable.", () -> Checks.undone("goBack(0)", x -> x.goBack(0)));
+        goBackReturns();
+    }
+
+    private static void goBackReturns() {
         Sentences.holds("`slot`: 0 or 1", () -> {
             ChequeSerials x = new ChequeSerials();
             x.keep(0);
@@ -456,6 +465,10 @@ final class TextPromises {
             Checks.due("goBack(1) from none", x.goBack(1), 6);
             Checks.due("goBack(1) again", x.goBack(1), 6);
         });
+        goBackThrows();
+    }
+
+    private static void goBackThrows() {
         Sentences.holds("Throws `IllegalArgumentException` if there is no such slot", () -> {
             for (int slot : new int[] {-1, 2, LEAST, MOST}) {
                 Checks.noArgument("goBack(" + slot + ")", Checks::busy, x -> x.goBack(slot));

@@ -6,7 +6,6 @@ import java.nio.file.Path;
 import java.util.regex.MatchResult;
 import java.util.regex.Matcher;
 import java.util.regex.Pattern;
-import javax.tools.ToolProvider;
 
 /** README.md tells the truth: its examples are run, and each call of the face is named in it. */
 public final class ReadmeTest {
@@ -38,8 +37,8 @@ public final class ReadmeTest {
         Path file = folder.resolve(name + ".java");
         Files.writeString(file, "final class " + name + " {\n    static void run() {\n"
                 + withChecks(lines) + "    }\n}\n");
-        int failed = ToolProvider.getSystemJavaCompiler().run(null, null, null, "-cp",
-                folder.toString(), "-d", folder.toString(), file.toString());
+        int failed = new ProcessBuilder("javac", "-cp", folder.toString(), "-d", folder.toString(),
+                file.toString()).inheritIO().start().waitFor();
         Checks.due("the compiler on an example of README.md", failed, 0);
         if (failed == 0) {
             Class.forName(name).getDeclaredMethod("run").invoke(null);
